@@ -233,7 +233,7 @@ public final class FootholdWall {
             if (((open & ~in) >> h & 1) == 0) {
                 return place * 8 + 2;
             }
-            int allowed = last == NONE ? wall.starts : (wall.tops >> last & 1) != 0 ? 0 : r.rowOf(last);
+            int allowed = last == NONE ? wall.starts : (wall.tops >> last & 1) != 0 ? 0 : r.stepped(last, 1 << h);
             if ((allowed >> h & 1) == 0) {
                 return place * 8 + 3;
             }
@@ -788,22 +788,17 @@ public final class FootholdWall {
                     end++;
                 }
             } else if (isDigit(text[start])) {
-                readNumber();
+                value = 0;
+                while (end < length && isDigit(text[end])) {
+                    value = value * 10 + (text[end] - '0');
+                    end++;
+                }
+                kind = end - start <= 3 ? NUMBER : NO_TOKEN;
             } else {
                 value = text[start] & 255;
                 kind = SIGNS.indexOf((char) value) >= 0 ? SIGN : NO_TOKEN;
                 end++;
             }
-        }
-
-        private void readNumber() {
-            value = 0;
-            while (end < length && isDigit(text[end])) {
-                // Longer ones are no token; their value is never asked for.
-                value = value * 10 + (text[end] - '0');
-                end++;
-            }
-            kind = end - start <= 3 ? NUMBER : NO_TOKEN;
         }
 
         private static boolean isLetter(int sign) {
@@ -1049,7 +1044,8 @@ public final class FootholdWall {
         private static final int WAITING = 24;
 
         private final int[] code;
-        private final int[] facts = new int[FACT_MASK + 1];
+        /** Told anew for each step, by DX to DAY. */
+        final int[] facts = new int[FACT_MASK + 1];
         private final int[] stack = new int[WAITING];
 
         Law(int[] c) {
@@ -1066,11 +1062,7 @@ public final class FootholdWall {
             return false;
         }
 
-        void tell(int fact, int value) {
-            facts[fact & FACT_MASK] = value;
-        }
-
-        /** Whether it holds by the facts told. */
+        /** Whether it holds by the facts. */
         boolean holds() {
             int top = 0;
             for (int i = 0; i < code.length; i++) {
@@ -1082,41 +1074,33 @@ public final class FootholdWall {
                     }
                     stack[top] = kind == NUMBER ? operand : facts[operand & FACT_MASK];
                     top++;
-                } else if (kind <= OR) {
-                    if (top < 1) {
-                        return false;
-                    }
-                    if (kind == NOT) {
-                        stack[top - 1] = 1 - stack[top - 1];
-                    } else if (stack[top - 1] != 0 == (kind == OR)) {
-                        i = Math.max(i, operand - 1);
-                    } else {
-                        top--;
-                    }
-                } else {
-                    if (top < 2) {
-                        return false;
-                    }
+                } else if (top < (kind <= OR ? 1 : 2)) {
+                    return false;
+                } else if (kind > OR) {
                     top--;
                     stack[top - 1] = joined(kind, stack[top - 1], stack[top]);
+                } else if (kind == NOT) {
+                    stack[top - 1] = 1 - stack[top - 1];
+                } else if (stack[top - 1] != 0 == (kind == OR)) {
+                    i = Math.max(i, operand - 1);
+                } else {
+                    top--;
                 }
             }
             return top > 0 && stack[top - 1] != 0;
         }
 
         private static int joined(int kind, int left, int right) {
+            long value = 0;
             switch (kind) {
-                case PLUS: return kept((long) left + right);
-                case MINUS: return kept((long) left - right);
-                case TIMES: return kept((long) left * right);
+                case PLUS: value = (long) left + right; break;
+                case MINUS: value = (long) left - right; break;
+                case TIMES: value = (long) left * right; break;
                 case EQUAL: return left == right ? 1 : 0;
                 case LESS: return left < right ? 1 : 0;
                 default: return left > right ? 1 : 0;
             }
-        }
-
-        private static int kept(long value) {
-            return (int) Math.max(-FARTHEST, Math.min(FARTHEST, value));
+            return value > FARTHEST ? FARTHEST : value < -FARTHEST ? -FARTHEST : (int) value;
         }
     }
 
@@ -1352,13 +1336,14 @@ public final class FootholdWall {
             if (law == null) {
                 return far <= ownLeg;
             }
-            law.tell(Law.DX, dx);
-            law.tell(Law.UP, up);
-            law.tell(Law.FAR, far);
-            law.tell(Law.LEG, ownLeg);
-            law.tell(Law.WEIGHT, ownWeight);
-            law.tell(Law.WIDE, wides >> to & 1);
-            law.tell(Law.DAY, day);
+            int[] facts = law.facts;
+            facts[Law.DX] = dx;
+            facts[Law.UP] = up;
+            facts[Law.FAR] = far;
+            facts[Law.LEG] = ownLeg;
+            facts[Law.WEIGHT] = ownWeight;
+            facts[Law.WIDE] = wides >> to & 1;
+            facts[Law.DAY] = day;
             return law.holds();
         }
     }
@@ -1474,13 +1459,13 @@ public final class FootholdWall {
         }
     }
 
-    /** Where a guide may step to from each hold on a day; each row is asked of the law once. */
+    /** Where a guide may step to from each hold on a day; the law is asked once for each step, and when it is wanted. */
     private static final class Rows {
         Wall wall;
         private int leg = 0;
         private int weight = 0;
         private int day = 0;
-        private int known = 0;
+        private final int[] asked = new int[HOLDS];
         private final int[] row = new int[HOLDS];
 
         Rows(Wall w) {
@@ -1491,7 +1476,10 @@ public final class FootholdWall {
             boolean same = onWall == wall && ownWeight == weight
                 && (ownLeg == leg || !onWall.asksLeg()) && (onDay == day || !onWall.asksDay());
             if (!same) {
-                known = 0;
+                for (int h = 0; h < HOLDS; h++) {
+                    asked[h] = 1 << h;
+                    row[h] = 0;
+                }
             }
             wall = onWall;
             leg = ownLeg;
@@ -1499,21 +1487,19 @@ public final class FootholdWall {
             day = onDay;
         }
 
-        int rowOf(int h) {
-            if (h < 0 || h >= wall.holds) {
+        /** Those of a set that may be stepped to from a hold. */
+        int stepped(int from, int set) {
+            if (from < 0 || from >= wall.holds) {
                 return 0;
             }
-            if ((known >> h & 1) == 0) {
-                int set = 0;
-                for (int to = 0; to < wall.holds; to++) {
-                    if (to != h && wall.mayStep(h, to, leg, weight, day)) {
-                        set |= 1 << to;
-                    }
+            int unknown = set & ~asked[from];
+            for (int to = 0; to < wall.holds && unknown != 0; to++) {
+                if ((unknown >> to & 1) != 0 && wall.mayStep(from, to, leg, weight, day)) {
+                    row[from] |= 1 << to;
                 }
-                row[h] = set;
-                known |= 1 << h;
             }
-            return row[h];
+            asked[from] |= unknown;
+            return row[from] & set;
         }
 
         /** What is come to from a set within another one, gone on from some alone, until a goal is come to. */
@@ -1521,7 +1507,7 @@ public final class FootholdWall {
             int seen = from;
             int todo = from & through;
             for (int i = 0; i < HOLDS && todo != 0 && (seen & goal) == 0; i++) {
-                int fresh = rowOf(Integer.numberOfTrailingZeros(todo)) & within & ~seen;
+                int fresh = stepped(Integer.numberOfTrailingZeros(todo), within & ~seen);
                 seen |= fresh;
                 todo = todo & todo - 1 | fresh & through;
             }
@@ -1552,11 +1538,12 @@ public final class FootholdWall {
         /** The first of the shortest climbs comes into path: how many holds, 0 if there is none. */
         int find(Rows r, int open) {
             length = findLayers(r, open);
-            int allowed = -1;
+            keepLeading(r, length);
+            int allowed = length > 0 ? layer[0] : 0;
             for (int i = 0; i < length; i++) {
-                int h = Integer.numberOfTrailingZeros(layer[i] & allowed);
+                int h = Integer.numberOfTrailingZeros(allowed);
                 path[i] = h;
-                allowed = r.rowOf(h);
+                allowed = i + 1 < length ? r.stepped(h, layer[i + 1]) : 0;
             }
             return length;
         }
@@ -1569,19 +1556,19 @@ public final class FootholdWall {
             return set;
         }
 
+        /** How many layers there are, the last one of tops; 0 if no top can be come to. */
         private int findLayers(Rows r, int open) {
             int seen = r.wall.starts & open;
             layer[0] = seen;
             for (int i = 0; i < HOLDS; i++) {
                 if ((layer[i] & r.wall.tops) != 0) {
                     layer[i] &= r.wall.tops;
-                    keepLeading(r, i);
                     return i + 1;
                 }
                 int next = 0;
                 for (int h = 0; h < HOLDS; h++) {
                     if ((layer[i] >> h & 1) != 0) {
-                        next |= r.rowOf(h) & open & ~seen;
+                        next |= r.stepped(h, open & ~seen);
                     }
                 }
                 if (next == 0 || i + 1 >= HOLDS) {
@@ -1593,11 +1580,11 @@ public final class FootholdWall {
             return 0;
         }
 
-        /** Ahead of the last layer only those holds stay from which the next one can be stepped to. */
-        private void keepLeading(Rows r, int last) {
-            for (int i = last - 1; i >= 0; i--) {
+        /** Ahead of the last of so many layers only those holds stay from which the next one can be stepped to. */
+        private void keepLeading(Rows r, int layers) {
+            for (int i = layers - 2; i >= 0; i--) {
                 for (int h = 0; h < HOLDS; h++) {
-                    if ((layer[i] >> h & 1) != 0 && (r.rowOf(h) & layer[i + 1]) == 0) {
+                    if ((layer[i] >> h & 1) != 0 && r.stepped(h, layer[i + 1]) == 0) {
                         layer[i] &= ~(1 << h);
                     }
                 }
@@ -1609,7 +1596,7 @@ public final class FootholdWall {
             for (int i = n - 1; i >= 0; i--) {
                 for (int h = 0; h < HOLDS; h++) {
                     if ((layer[i] >> h & 1) != 0) {
-                        numberFrom[h] = i == n - 1 ? 1 : numberFromAll(r.rowOf(h) & layer[i + 1]);
+                        numberFrom[h] = i == n - 1 ? 1 : numberFromAll(r.stepped(h, layer[i + 1]));
                     }
                 }
             }
@@ -1633,11 +1620,12 @@ public final class FootholdWall {
          */
         int leastUsed(Rows r, int open) {
             int n = findLayers(r, open);
+            keepLeading(r, n);
             int middles = r.wall.middles();
             for (int i = n - 1; i >= 0; i--) {
                 for (int h = 0; h < HOLDS; h++) {
                     if ((layer[i] >> h & 1) != 0) {
-                        int rest = i == n - 1 ? 0 : leastFromAny(r.rowOf(h) & layer[i + 1]);
+                        int rest = i == n - 1 ? 0 : leastFromAny(r.stepped(h, layer[i + 1]));
                         leastFrom[h] = rest | middles & 1 << h;
                     }
                 }
@@ -1646,7 +1634,7 @@ public final class FootholdWall {
         }
 
         private int leastFromAny(int set) {
-            int least = Integer.MAX_VALUE;
+            int least = 1 << HOLDS;
             for (int h = 0; h < HOLDS; h++) {
                 if ((set >> h & 1) != 0) {
                     least = Math.min(least, leastFrom[h]);
@@ -1679,7 +1667,7 @@ public final class FootholdWall {
         private static int leadingTo(Rows r, int among, int to) {
             int set = 0;
             for (int h = 0; h < HOLDS; h++) {
-                if ((among >> h & 1) != 0 && (r.rowOf(h) >> to & 1) != 0) {
+                if ((among >> h & 1) != 0 && r.stepped(h, 1 << to) != 0) {
                     set |= 1 << h;
                 }
             }
@@ -1692,7 +1680,7 @@ public final class FootholdWall {
                 return 0;
             }
             long sum = endingFrom(1 << from);
-            int next = r.rowOf(from) & free;
+            int next = r.stepped(from, free);
             if (left <= 2) {
                 return left == 1 ? sum : sum + endingFrom(next);
             }
@@ -1742,7 +1730,7 @@ public final class FootholdWall {
             }
             for (int h = 0; h < HOLDS; h++) {
                 if ((open & losable & 1 << h) != 0) {
-                    near[h] = r.spread(r.rowOf(h) & open, safe, open, 0) & (losable | tops) & ~(1 << h);
+                    near[h] = r.spread(r.stepped(h, open), safe, open, 0) & (losable | tops) & ~(1 << h);
                 }
             }
             laid = 0;
@@ -1836,34 +1824,38 @@ public final class FootholdWall {
         }
     }
 
-    /** Climbs over all of a set, and holds over which some climb goes: told by the sets that a climb's rest can have. */
+    /** Climbs that use just a set, and holds over which some climb goes: by all sets that the rest of a climb can have. */
     private static final class Chains {
         /** Of each set: on which of its holds a walk over all of it to a step to a top can begin. */
         private int[] heads = new int[1];
+        /** The holds over which walks may go. */
+        private int all = 0;
         private final int[] row = new int[HOLDS];
         final int[] path = new int[HOLDS];
 
-        /** The heads of a set with one bit more than the sets told already. */
-        private void tellHead(int set, int tops) {
-            int found = 0;
-            for (int h = 0; h < HOLDS; h++) {
-                if ((set >> h & 1) != 0) {
-                    int rest = set & ~(1 << h);
-                    if ((row[h] & (rest == 0 ? tops : heads[rest])) != 0) {
-                        found |= 1 << h;
-                    }
-                }
-            }
-            heads[set] = found;
-        }
-
-        private void prepare(Rows r, int all) {
+        /** Sets of one hold are told; walks over more of all grow from them. */
+        private void prepare(Rows r, int walkable, int tops) {
+            all = walkable;
             int size = Math.max(1, 2 * Integer.highestOneBit(all));
             if (heads.length < size) {
                 heads = new int[size];
             }
+            Arrays.fill(heads, 0, size, 0);
             for (int h = 0; h < HOLDS; h++) {
-                row[h] = r.rowOf(h);
+                if ((all >> h & 1) != 0) {
+                    row[h] = r.stepped(h, all);
+                    heads[1 << h] = r.stepped(h, tops) != 0 ? 1 << h : 0;
+                }
+            }
+        }
+
+        /** Walks over a set are told: what they grow to by a hold ahead of them. */
+        private void growFrom(int set) {
+            int begun = heads[set];
+            for (int h = 0; h < HOLDS && begun != 0; h++) {
+                if (((all & ~set) >> h & 1) != 0 && (row[h] & begun) != 0) {
+                    heads[set | 1 << h] |= 1 << h;
+                }
             }
         }
 
@@ -1872,14 +1864,13 @@ public final class FootholdWall {
             int reached = r.reached(open);
             int tops = reached & r.wall.tops;
             int starts = open & r.wall.starts;
-            int all = leadingOn(r, reached & ~tops, tops);
-            prepare(r, all);
+            prepare(r, leadingOn(r, reached & ~tops, tops), tops);
             int sets = 1 << Integer.bitCount(all);
             int set = 0;
             int found = 0;
             for (int i = 1; i < sets && found != all; i++) {
                 set = set - all & all;
-                tellHead(set, tops);
+                growFrom(set);
                 if ((heads[set] & starts) != 0) {
                     found |= set;
                 }
@@ -1894,7 +1885,7 @@ public final class FootholdWall {
             for (int i = 0; i < HOLDS && more; i++) {
                 int was = good;
                 for (int h = 0; h < HOLDS; h++) {
-                    if ((among >> h & 1) != 0 && (r.rowOf(h) & good) != 0) {
+                    if (((among & ~good) >> h & 1) != 0 && r.stepped(h, good) != 0) {
                         good |= 1 << h;
                     }
                 }
@@ -1911,65 +1902,56 @@ public final class FootholdWall {
                 return 0;
             }
             int more = starts & ~tops;
-            int all = set | more;
-            int seen = r.spread(more, all, all | tops, 0);
-            if ((seen & set) != set || (seen & tops) == 0 || (leadingOn(r, all, tops) & set) != set) {
+            int reached = r.spread(more, set | more, set | more | tops, 0);
+            int walkable = leadingOn(r, reached & ~tops, tops & reached);
+            more &= walkable;
+            if ((walkable & set) != set || more == 0) {
                 return NONE;
             }
-            prepare(r, all);
-            tellHeads(all, tops);
+            prepare(r, walkable, tops);
             int best = NONE;
-            int sets = 1 << Integer.bitCount(more);
-            int extra = 0;
-            for (int i = 0; i < sets; i++) {
-                int whole = set | extra;
-                int size = Integer.bitCount(whole);
-                if (whole != 0 && (heads[whole] & more) != 0 && (best == NONE || size < best)) {
+            int sets = 1 << Integer.bitCount(all);
+            int walked = 0;
+            for (int i = 1; i < sets; i++) {
+                walked = walked - all & all;
+                growFrom(walked);
+                int size = Integer.bitCount(walked);
+                if ((walked & set) == set && (heads[walked] & more) != 0 && (best == NONE || size < best)) {
                     best = size;
                 }
-                extra = extra - more & more;
             }
             return best;
-        }
-
-        private void tellHeads(int all, int tops) {
-            int sets = 1 << Integer.bitCount(all);
-            int set = 0;
-            for (int i = 1; i < sets; i++) {
-                set = set - all & all;
-                tellHead(set, tops);
-            }
         }
 
         /** The first of the climbs with the fewest holds that use just a set comes into path: how many holds. */
         int first(Rows r, int set, int there) {
             int best = fewest(r, set, there);
             int tops = there & r.wall.tops;
-            int starts = there & r.wall.starts;
-            if (best == NONE) {
+            if (best == NONE || best >= HOLDS) {
                 return 0;
             }
-            int allowed = best == 0 ? starts : starts & ~tops;
-            int gone = 0;
+            int left = best == 0 ? 0 : all;
+            int more = left & ~set;
+            int allowed = there & r.wall.starts;
             for (int i = 0; i < best; i++) {
-                int heading = headingOn(set & ~gone, starts & ~tops & ~gone, best - i) & allowed;
-                int h = Integer.numberOfTrailingZeros(heading);
+                int begun = begunOver(set & left, more & left, best - i) & allowed;
+                int h = Integer.numberOfTrailingZeros(begun);
                 path[i] = h;
-                gone |= 1 << h;
-                allowed = r.rowOf(h);
+                left &= ~(1 << h);
+                allowed = r.stepped(h, left | tops);
             }
             path[best] = Integer.numberOfTrailingZeros(allowed & tops);
             return best + 1;
         }
 
         /** On which holds a walk over a set and some of others, so many in all, can begin. */
-        private int headingOn(int set, int others, int size) {
+        private int begunOver(int set, int others, int size) {
             int found = 0;
             int sets = 1 << Integer.bitCount(others);
             int extra = 0;
             for (int i = 0; i < sets; i++) {
                 int whole = set | extra;
-                if (Integer.bitCount(whole) == size && whole < heads.length) {
+                if (Integer.bitCount(whole) == size && whole >= 0 && whole < heads.length) {
                     found |= heads[whole];
                 }
                 extra = extra - others & others;
