@@ -10,7 +10,7 @@ public final class ModelTest {
 
     public static void main(String[] args) {
         long first = args.length > 0 ? Long.parseLong(args[0]) : 1;
-        int runs = args.length > 1 ? Integer.parseInt(args[1]) : 700;
+        int runs = args.length > 1 ? Integer.parseInt(args[1]) : 1500;
         for (long seed = first; seed < first + runs && wrong < 20; seed++) {
             new Run(seed).go();
         }
@@ -473,7 +473,7 @@ public final class ModelTest {
         void go() {
             int walls = 1 + r.nextInt(2);
             for (int w = 0; w < walls; w++) {
-                Told t = tell(seed % 7 == 0 ? 9 : 7);
+                Told t = tell(seed % 3 == 0 ? 9 : 8);
                 feed(t.text);
                 due("wall", x.wall(t.text.length()), t.lines);
                 m.told(t);
@@ -505,16 +505,25 @@ public final class ModelTest {
                 Arrays.fill(t.usedBy, -1);
                 StringBuilder b = new StringBuilder();
                 int size = 2 + r.nextInt(6);
-                int holds = r.nextInt(12) == 0 ? r.nextInt(3) : 3 + r.nextInt(most - 2);
+                int holds = r.nextInt(20) == 0 ? r.nextInt(3) : most - r.nextInt(most - 2);
                 int guides = r.nextInt(20) == 0 ? 0 : 1 + r.nextInt(4);
                 int startShare = 2 + r.nextInt(5), topShare = 2 + r.nextInt(5);
                 boolean late = r.nextInt(3) == 0;
                 if (!late) law(t, b);
                 if (r.nextInt(4) == 0) { t.firstDay = r.nextInt(30); line(t, b, "day " + t.firstDay); }
-                for (int h = 0; h < holds; h++) hold(t, b, h, size, h == 0 || r.nextInt(startShare * 2) == 0, h == holds - 1 || r.nextInt(topShare * 2) == 0);
+                int startAt = holds == 0 ? 0 : r.nextInt(holds), topAt = holds == 0 ? 0 : r.nextInt(holds);
+                boolean tall = r.nextInt(4) > 0;
+                int height = 3 + r.nextInt(2);
+                for (int h = 0; h < holds; h++) {
+                    boolean start = h == startAt || r.nextInt(startShare * 3) == 0, top = h == topAt && (!tall || !start) || r.nextInt(topShare * 3) == 0;
+                    t.x[h] = r.nextInt(tall ? 2 + h % 2 : size);
+                    // On a tall wall starts are low, tops are high, and most steps go up by one or two.
+                    t.y[h] = !tall ? r.nextInt(size) : r.nextInt(19) == 0 ? r.nextInt(height * 2) : start ? 0 : top ? height : 1 + r.nextInt(height - 1);
+                    hold(t, b, h, start, top);
+                }
                 t.n = holds;
                 for (int g = 0; g < guides; g++) {
-                    t.leg[g] = r.nextInt(9);
+                    t.leg[g] = tall ? 2 + r.nextInt(2) : r.nextInt(9);
                     t.weight[g] = r.nextInt(2) == 0 ? 0 : r.nextInt(12);
                     line(t, b, "guide leg " + t.leg[g] + (t.weight[g] > 0 || r.nextBoolean() ? " weight " + t.weight[g] : ""));
                 }
@@ -539,20 +548,18 @@ public final class ModelTest {
         }
 
         void law(Told t, StringBuilder b) {
-            if (r.nextInt(3) == 0) {
+            if (r.nextInt(5) == 0) {
                 t.law = truth(r, 0);
                 line(t, b, "step : " + t.law.text());
             }
         }
 
-        void hold(Told t, StringBuilder b, int h, int size, boolean start, boolean top) {
-            t.x[h] = r.nextInt(size);
-            t.y[h] = r.nextInt(size);
+        void hold(Told t, StringBuilder b, int h, boolean start, boolean top) {
             String s = "hold " + t.x[h] + " " + t.y[h];
             if (top && r.nextInt(30) > 0) { t.top[h] = true; s += " top"; }
             if (r.nextInt(5) == 0) { t.wide[h] = true; s += " wide"; }
             if (start && (!top || r.nextInt(8) == 0) && r.nextInt(30) > 0) { t.start[h] = true; s += " start"; }
-            if (r.nextInt(6) == 0) {
+            if (r.nextInt(12) == 0) {
                 if (r.nextInt(3) == 0) s += " ice " + r.nextInt(1000);
                 t.ice[h] = r.nextInt(5) == 0 ? 190 + r.nextInt(30) : r.nextInt(8);
                 s += " ice " + t.ice[h];
@@ -617,7 +624,7 @@ public final class ModelTest {
                     due("days " + n, x.days(n), want);
                 }
                 case 4 -> due("rain " + n, x.rain(n), n < 1 ? -3 : m.rain(n));
-                case 5 -> breaks(h);
+                case 5 -> { if (r.nextInt(3) == 0) breaks(h); }
                 case 6 -> {
                     if (r.nextInt(3) > 0) return;
                     int had = m.countUsed();
@@ -756,8 +763,8 @@ public final class ModelTest {
                     due("highest " + g, x.highest(g), want);
                 }
                 case 12, 13 -> due("together " + g + " " + o, x.together(g, o), is && guide(o) ? m.together(g, o) : -2);
-                case 14 -> { if (m.t.n < 8) due("leastLeg " + g, x.leastLeg(g), is ? m.leastLeg(g) : -2); }
-                case 15 -> { if (m.t.n < 8) due("opens " + g, x.opens(g), is ? m.opens(g) : -2); }
+                case 14 -> { if (m.t.n < 9) due("leastLeg " + g, x.leastLeg(g), is ? m.leastLeg(g) : -2); }
+                case 15 -> { if (m.t.n < 9) due("opens " + g, x.opens(g), is ? m.opens(g) : -2); }
                 case 16 -> due("dearest " + g, x.dearest(g), is ? m.dearest(g) : -2);
                 case 17, 18 -> {
                     int set = someSet(g);

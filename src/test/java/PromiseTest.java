@@ -196,6 +196,13 @@ public final class PromiseTest {
         fault("1000", 1, 0);
         fault("100", 2, 0);
         fault("startx", 2, 0);
+        fault("z;", 2, 0);
+        fault("{;", 1, 0);
+        fault("`;", 1, 0);
+        fault("/;", 1, 0);
+        fault("bold 1 1;", 2, 0);
+        fault("holds 1 1;", 2, 0);
+        fault("hol 1 1;", 2, 0);
         fault("hold 1 1 startx;", 2, 9);
         fault("hold 1 1 start", 2, 14);
         fault("hold 1 1 start \n ", 2, 17);
