@@ -26,7 +26,7 @@ public final class FootholdWall {
     private static final int DAYS_AHEAD = 200;
     private static final int LONGEST_COUNTED = 7;
     private static final int ENDLESS = 99;
-    /** Behind this number a call's 'what' asks for the k-th of a row. */
+    /** From this number on a call's 'what' asks for the k-th of a row. */
     private static final int KTH = 10;
 
     private final byte[] tape = new byte[TAPE];
@@ -872,9 +872,8 @@ public final class FootholdWall {
             tokens = t;
         }
 
-        boolean read() {
+        void begin() {
             length = 0;
-            return readTruth(0);
         }
 
         Law made() {
@@ -888,14 +887,14 @@ public final class FootholdWall {
             }
         }
 
-        /** What stands at a place is passed over, if the truth ahead of it decides. */
+        /** The and, or at a place leads right here, if the truth ahead of it decides. */
         private void aimSkip(int at) {
             if (at >= 0 && at < TAPE) {
                 code[at] = code[at] & Law.KIND_MASK | length << Law.KIND_BITS;
             }
         }
 
-        private boolean readTruth(int depth) {
+        boolean readTruth(int depth) {
             boolean fine = readBoth(depth);
             for (int i = 0; i < TAPE && fine && tokens.isWord("or"); i++) {
                 tokens.go();
@@ -1040,7 +1039,7 @@ public final class FootholdWall {
         static final int DAY = 6;
         private static final int FACT_MASK = 7;
         private static final int FARTHEST = 1000000;
-        /** Three operands wait within each of ( at most, and seven levels there are. */
+        /** Within each of at most seven levels of ( no more than three operands wait at once. */
         private static final int WAITING = 24;
 
         private final int[] code;
@@ -1147,7 +1146,8 @@ public final class FootholdWall {
             if (tokens.isWord("step")) {
                 tokens.go();
                 lawTold = true;
-                return tokens.takeSign(':') && lawReader.read();
+                lawReader.begin();
+                return tokens.takeSign(':') && lawReader.readTruth(0);
             }
             if (tokens.isWord("used")) {
                 return readUsed();
