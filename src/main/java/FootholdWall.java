@@ -1840,7 +1840,12 @@ public final class FootholdWall {
             if (heads.length < size) {
                 heads = new int[size];
             }
-            Arrays.fill(heads, 0, size, 0);
+            int sets = 1 << Integer.bitCount(all);
+            int set = 0;
+            for (int i = 0; i < sets; i++) {
+                heads[set] = 0;
+                set = set - all & all;
+            }
             for (int h = 0; h < HOLDS; h++) {
                 if ((all >> h & 1) != 0) {
                     row[h] = r.stepped(h, all);
