@@ -304,9 +304,7 @@ public final class FootholdWall {
             return NOT_NOW;
         }
         before.take(state);
-        int was = state.used >> h & 1;
-        state.used &= ~(1 << h);
-        state.broken |= 1 << h;
+        int was = state.breakDown(h);
         remember();
         return was;
     }
@@ -1153,10 +1151,7 @@ public final class FootholdWall {
                 return readUsed();
             }
             if (tokens.isWord("broken")) {
-                tokens.go();
-                int h = tokens.takeNumber(draft.holds - 1);
-                told.broken |= h == NONE ? 0 : 1 << h;
-                return h != NONE;
+                return readBroken();
             }
             if (tokens.isWord("day")) {
                 tokens.go();
@@ -1246,6 +1241,16 @@ public final class FootholdWall {
                 return false;
             }
             told.use(1 << h, g);
+            return true;
+        }
+
+        private boolean readBroken() {
+            tokens.go();
+            int h = tokens.takeNumber(draft.holds - 1);
+            if (h == NONE) {
+                return false;
+            }
+            told.breakDown(h);
             return true;
         }
     }
@@ -1398,6 +1403,14 @@ public final class FootholdWall {
             }
             used |= set;
             return Integer.bitCount(set);
+        }
+
+        /** A hold breaks, and so is used no more: 1 if it was used. */
+        int breakDown(int h) {
+            int was = used >> h & 1;
+            used &= ~(1 << h);
+            broken |= 1 << h;
+            return was;
         }
 
         /** A text's day may stand behind what is used on it. */

@@ -528,23 +528,24 @@ public final class ModelTest {
                     line(t, b, "guide leg " + t.leg[g] + (t.weight[g] > 0 || r.nextBoolean() ? " weight " + t.weight[g] : ""));
                 }
                 t.guides = guides;
-                for (int k = r.nextInt(4); k > 0 && guides > 0; k--) {
-                    int h = holds == 0 ? 0 : r.nextInt(holds);
-                    if (holds == 0 || !t.middle(h)) continue;
-                    int g = r.nextInt(guides);
-                    t.usedBy[h] = g;
-                    line(t, b, "used " + h + " by " + g);
-                }
-                if (holds > 0 && r.nextInt(4) == 0) {
-                    int h = r.nextInt(holds);
-                    t.broken[h] = true;
-                    line(t, b, "broken " + h);
-                }
+                for (int k = r.nextInt(5); k > 0 && holds > 0; k--) usedOrBroken(t, b);
                 if (late) law(t, b);
                 if (r.nextInt(4) == 0) { t.firstDay = r.nextInt(4); line(t, b, "day " + t.firstDay); }
                 t.text = b.toString();
             } while (t.text.length() > 900);
             return t;
+        }
+
+        void usedOrBroken(Told t, StringBuilder b) {
+            int h = r.nextInt(t.n);
+            if (r.nextInt(5) == 0) {
+                t.broken[h] = true;
+                t.usedBy[h] = -1;
+                line(t, b, "broken " + h);
+            } else if (t.guides > 0 && t.middle(h)) {
+                t.usedBy[h] = r.nextInt(t.guides);
+                line(t, b, "used " + h + " by " + t.usedBy[h]);
+            }
         }
 
         void law(Told t, StringBuilder b) {

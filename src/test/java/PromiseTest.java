@@ -22,6 +22,7 @@ public final class PromiseTest {
         law();
         lawKept();
         told();
+        toldUsedAndBroken();
         holdAndGuide();
         stepsAndReach();
         judged();
@@ -316,6 +317,31 @@ public final class PromiseTest {
         due("used on the first DAY", x.hold(0, 7), 9);
         due("later day", x.count(2), 9);
         due("WEIGHT 0", x.guide(0, 1), 0);
+    }
+
+    // promises 3, 14: what a text tells used and then broken is USED no more
+    static void toldUsedAndBroken() {
+        FootholdWall x = on(LADDER + "used 1 by 2;used 2 by 0;day 4;broken 1;");
+        due("USED ones", x.count(4), 1);
+        due("USED by none", x.hold(1, 6), -1);
+        due("on no DAY", x.hold(1, 7), -1);
+        due("broken", x.hold(1, 8), 1);
+        due("not THERE", x.hold(1, 4), 0);
+        due("not of the guide", x.guide(2, 2), 0);
+        due("the other one is", x.guide(0, 2), 4);
+        due("breaks", x.breaks(1), -5);
+        due("newYear", x.newYear(), 1);
+        due("undo", x.undo(1), 0);
+        due("one comes back", x.rain(14), 1);
+        due("it stays broken", x.count(9), 1);
+        x = on(LADDER + "used 1 by 2;broken 1;broken 1;");
+        due("broken twice", x.count(4) * 10 + x.count(9), 1);
+        x = on(LADDER + "broken 1;used 1 by 2;");
+        due("told used behind that", x.hold(1, 6), 2);
+        due("and broken", x.hold(1, 8), 1);
+        due("not OPEN", x.hold(1, 5), 0);
+        due("it comes back", x.rain(1), 1);
+        due("and isn't THERE", x.hold(1, 4), 0);
     }
 
     // promises 5, 6
