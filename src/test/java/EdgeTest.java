@@ -264,6 +264,8 @@ public final class EdgeTest {
         due("no 15th", x.hold(14, 0), -8);
         fault("hold 0 0;".repeat(15), 4, 126);
 
+        firstAndLastHold();
+
         says(0, "guide: LEG 0 to 99, WEIGHT 0 to 99 (0); numbered from 0 on, 5 at most");
         x = on("guide leg 0;guide leg 99 weight 0;guide leg 1 weight 99;guide leg 2;guide leg 3 weight 4;");
         int[][] guides = {{0, 0}, {99, 0}, {1, 99}, {2, 0}, {3, 4}};
@@ -319,6 +321,63 @@ public final class EdgeTest {
         due("no day", on("hold 0 0;guide leg 1;used 0 by 0;").hold(0, 7), 0);
     }
 
+    /** Holds 0 and 13 side by side between a start and a top; ten others are out of the way. */
+    static void firstAndLastHold() {
+        String far = "hold 0 9;".repeat(10);
+        FootholdWall x = on("hold 0 1;hold 0 0 start;hold 0 2 top;" + far + "hold 0 1;guide leg 1;guide leg 1;step : up = 1;");
+        int last = 1 << 13;
+        due("steps to the first", x.steps(0, 1, 0), 1);
+        due("steps to the last", x.steps(0, 1, 13), 1);
+        due("reach", x.reach(0), 7 | last);
+        due("way", x.way(0, 11), 0);
+        due("ways", x.ways(0), 2);
+        due("climbs", x.climbs(0, 7), 2);
+        due("parties", x.parties(0), 2);
+        due("shut", x.shut(0, 1), 1 | last);
+        due("needed", x.needed(0), 0);
+        due("idle", x.idle(0), 0x3fff & ~(7 | last));
+        due("together", x.together(0, 1), 1);
+        due("dearest", x.dearest(0), 0);
+        due("whose of the first", x.whose(1), 3);
+        due("whose of the last", x.whose(last), 3);
+        due("order of the last", x.order(0, last, 11), 13);
+        due("saved", x.saved(0), 1);
+        due("leaves", x.leaves(0, 0), 1);
+        due("inTurn", x.inTurn(3, 0), 2);
+        due("goes", x.goes(1), 1);
+        due("USED by", x.hold(0, 6), 1);
+        due("needed then", x.needed(0), last);
+        due("needers", x.needers(13), 3);
+        due("shut then", x.shut(0, 1), last);
+        due("dearest then", x.dearest(0), 13);
+        due("saved then", x.saved(0), last);
+        due("leaves then", x.leaves(0, 0), 0);
+        x.days(1);
+        due("goes", x.goes(0), 1);
+        due("USED by", x.hold(13, 6), 0);
+        due("USED on", x.hold(13, 7), 1);
+        due("rain", x.rain(1), 1);
+        due("the first comes back", x.hold(0, 5), 1);
+        due("breaks the last", x.breaks(13), 1);
+        due("breaks the first", x.breaks(0), 0);
+        due("needers of none", x.needers(0), 0);
+        x = on("hold 0 1;hold 0 0 start;hold 0 2 top;" + far + "hold 0 1;guide leg 1;used 0 by 0;used 13 by 0;day 9;");
+        due("told used: the first", x.hold(0, 7), 9);
+        due("told used: the last", x.hold(13, 7), 9);
+        due("told used: of the guide", x.guide(0, 2), 1 | last);
+        // A top is the first, a start the last.
+        x = on("hold 0 2 top;hold 0 1;" + "hold 9 9;".repeat(10) + "hold 0 1;hold 0 0 start;guide leg 9;step : up = 1;");
+        due("way from the last", x.way(0, 10), 13);
+        due("way to the first", x.way(0, 12), 0);
+        due("climbs", x.climbs(0, 3), 2);
+        due("idle", x.idle(0), 0x3fff & ~(3 | 1 << 12 | last));
+        due("shut", x.shut(0, 1), 2 | 1 << 12);
+        due("order", x.order(0, 2, 12), 0);
+        due("highest", x.highest(0), 2);
+        tray(x, 0, 13, 1, 0);
+        judged("told", x, -1, 0, 1);
+    }
+
     // ---- the law's language
 
     static void laws() {
@@ -326,6 +385,11 @@ public final class EdgeTest {
         due("one", lawful("1 = 1"), 1);
         due("three by or", lawful("1 = 2 or 1 = 2 or 1 = 1"), 1);
         due("three by and", lawful("1 = 1 and 1 = 1 and 1 = 2"), 0);
+        due("the first of three decides: or", lawful("1 = 1 or 1 = 2 or 1 = 2"), 1);
+        due("the first of three decides: and", lawful("1 = 2 and 1 = 1 and 1 = 1"), 0);
+        due("the second of three decides: or", lawful("1 = 2 or 1 = 1 or 1 = 2"), 1);
+        due("the second of three decides: and", lawful("1 = 1 and 1 = 2 and 1 = 1"), 0);
+        due("decided within [ ]", lawful("not [1 = 1 or 1 = 2] or not [1 = 2 and 1 = 1]"), 1);
         due("or behind and", lawful("1 = 2 and 1 = 1 or 1 = 1"), 1);
         due("and behind or", lawful("1 = 1 or 1 = 1 and 1 = 2"), 1);
         fault("step : ;", 2, 7);
@@ -429,6 +493,21 @@ public final class EdgeTest {
         fault("hold`1 1;", 1, 4);
         fault("hold{1 1;", 1, 4);
         fault("a".repeat(900), 2, 0);
+        String[] known = {"hold", "guide", "step", "used", "broken", "day"};
+        for (String word : known) {
+            fault("z" + word.substring(1) + " 1 1;", 2, 0);
+            fault(word.substring(0, word.length() - 1) + "z 1 1;", 2, 0);
+            fault(word + "s 1 1;", 2, 0);
+            fault(word.substring(1) + " 1 1;", 2, 0);
+        }
+        for (String flag : new String[] {"start", "top", "wide", "ice"}) {
+            fault("hold 1 1 z" + flag.substring(1) + " 5;", 2, 9);
+            fault("hold 1 1 " + flag + "z 5;", 2, 9);
+        }
+        for (String atom : new String[] {"dx", "up", "far", "leg", "weight", "wide", "day", "not"}) {
+            fault("step : z" + atom.substring(1) + " = 1;", 2, 7);
+            fault("step : " + atom + "z = 1;", 2, 7);
+        }
 
         says(0, "N (1 to 3 digits)");
         fine("day 9;day 99;day 999;day 0;day 00;day 000;day 009;", 7);
@@ -556,6 +635,8 @@ public final class EdgeTest {
 
         says(0, "each + - * kept from -1,000,000 to 1,000,000");
         String million = "1000 * 1000".replace("1000", "(999 + 1)");
+        due("a million itself", lawful("999 * 999 + 999 + 999 < " + million), 1);
+        due("less a million itself", lawful("0 - 999 * 999 - 999 - 999 > 0 - " + million), 1);
         due("* to a million", lawful(million + " = 999 * 999 + 999 + 999 + 1"), 1);
         due("* just below", lawful("(" + million + " - 1) * 1 = " + million), 0);
         due("* just above", lawful("(999 + 2) * (999 + 1) = " + million), 1);
@@ -566,6 +647,7 @@ public final class EdgeTest {
         due("+ just above", lawful("(" + million + " + 1) - 1 = " + million + " - 1"), 1);
         due("+ far above", lawful("(" + million + " + " + million + ") - 1 = " + million + " - 1"), 1);
         due("- to less a million", lawful("(0 - " + million + ") + 1 > 0 - " + million), 1);
+        due("not below less a million", lawful("0 - 999 * 999 - 999 - 999 - 1 - 1 = 0 - " + million), 1);
         due("- just below that", lawful("(0 - " + million + " - 1) + 1 = 1 - " + million), 1);
         due("- far below", lawful("(0 - " + million + " - " + million + ") + 1 = 1 - " + million), 1);
         due("* below less a million", lawful("(0 - 999 - 2) * (999 + 1) = 0 - " + million), 1);
@@ -782,6 +864,8 @@ public final class EdgeTest {
             due("something was done", x.count(6), 1);
         }
 
+        undoneEach();
+
         says(0, "the latest first, 10 at most (eldest are forgotten)");
         for (int calls : new int[] {1, 9, 10, 11, 19, 20, 21, 35}) {
             x = on(LADDER);
@@ -823,6 +907,22 @@ public final class EdgeTest {
         due("THE TAPE stays", x.count(7), 20);
     }
 
+    /** Each sort of call that did some: undone, all is as it was ahead of it alone. */
+    static void undoneEach() {
+        RefusedCalls.Call[] calls = {x -> x.climb(0), x -> x.goes(1), x -> x.goes(2), x -> x.days(99), x -> x.rain(1), x -> x.rain(14),
+            x -> x.breaks(0), x -> x.breaks(4), x -> x.newYear(), x -> x.season(0, 1), x -> x.season(7, 40)};
+        for (int i = 0; i < calls.length; i++) {
+            FootholdWall x = on(LADDER + "hold 5 5;hold 6 6;used 4 by 0;used 5 by 1;day 4;");
+            x.breaks(5);
+            x.days(3);
+            tray(x, 1, 0, 2, 3);
+            String was = RefusedCalls.seen(x);
+            due("call " + i + " is refused", calls[i].on(x) < 0 ? 1 : 0, 0);
+            due("call " + i + " can be undone", x.undo(1), 2);
+            due("call " + i + " is undone", RefusedCalls.seen(x).equals(was) ? 1 : 0, 1);
+        }
+    }
+
     static int draw(int seed) { return (1103515245 * seed + 12345) >>> 16; }
 
     // ---- as all is
@@ -836,6 +936,33 @@ public final class EdgeTest {
         x = on("hold 0 0 start;hold 0 2 top;hold 0 1;hold 1 0 start;hold 1 2 top;hold 1 1;guide leg 1;");
         due("by numbers in turn", x.way(0, 10) * 100 + x.way(0, 11) * 10 + x.way(0, 12), 21);
 
+        x = on("hold 9 0 start;hold 5 0 start;hold 4 0;hold 4 1;hold 5 1;hold 5 2;hold 5 3 top;guide leg 1;");
+        int[] way = {1, 4, 5, 6};
+        for (int k = 0; k < 4; k++) due("no blind alleys " + k, x.way(0, 10 + k), way[k]);
+        x = on("hold 0 9;hold 0 8 start;hold 0 0 start;hold 0 1 top;hold 0 2 top;guide leg 1;");
+        due("the START that leads on", x.way(0, 10), 2);
+
+        says(0, "On this DAY, as all is");
+        x = on("hold 0 0 start;hold 0 1;hold 0 2 top;guide leg 1 weight 3;guide leg 1 weight 4;step : day = 5 and weight = 3 or day = 6 and leg = weight;");
+        int[] able = {0, 1, 0};
+        for (int i = 0; i < 3; i++) {
+            x.days(i == 0 ? 4 : 1);
+            due("able on DAY " + (4 + i), x.able(), able[i]);
+            due("way of 0 on DAY " + (4 + i), x.way(0, 0), able[i] == 0 ? -1 : 2);
+            due("opens of 0 on DAY " + (4 + i), x.opens(0), i < 2 ? 5 : -1);
+            for (int round = 0; round < 2; round++) {
+                due("leastLeg of 0 on DAY " + (4 + i), x.leastLeg(0), i == 0 ? -1 : i == 1 ? 0 : 3);
+                due("leastLeg of 1 on DAY " + (4 + i), x.leastLeg(1), i == 2 ? 4 : -1);
+            }
+        }
+        x.newYear();
+        due("able on DAY 0", x.able(), 0);
+        due("opens on DAY 0", x.opens(0), 5);
+        x.days(5);
+        due("able on DAY 5 of another year", x.able(), 1);
+        x.undo(2);
+        due("able undone", x.able(), 0);
+
         says(0, "(99: some CLIMB uses none)");
         due("START to TOP", on("hold 0 0 start;hold 0 1 top;guide leg 1;").parties(0), 99);
         due("START and TOP in one", on("hold 0 0 start top;guide leg 1;").parties(0), 99);
@@ -843,6 +970,11 @@ public final class EdgeTest {
         due("no CLIMB", on("hold 0 0 start;hold 0 2 top;guide leg 1;").parties(0), 0);
         due("twelve at most", on(FULL).parties(4), 12);
         due("one over all", on(LONG).parties(0), 1);
+        // The first way takes 1 and 3; 1, 4 and 2, 3 are two.
+        x = on("hold 3 0 start;hold 2 1;hold 4 1;hold 3 2;hold 1 2;hold 3 3 top;guide leg 1;step : up = 1 and dx < 3;");
+        due("the first way", x.way(0, 11) * 10 + x.way(0, 12), 13);
+        due("pushed aside", x.parties(0), 2);
+        due("pushed aside: shut", x.shut(0, 1), 6);
 
         says(0, "(none by any: some CLIMB uses none)");
         x = on("hold 0 0 start;hold 0 1 top;hold 1 0;guide leg 1;");
@@ -1054,6 +1186,8 @@ public final class EdgeTest {
         due("LINES", z.count(8), 1);
         due("nothing can be UNDONE", z.undo(1), -3);
 
+        anew();
+
         says(3, "(all stays with a FAULT)");
         String[] faulty = {"?", "hold", "hold 100 1;", "hold 1 1;".repeat(15)};
         for (int kind = 1; kind <= 4; kind++) {
@@ -1096,6 +1230,36 @@ public final class EdgeTest {
         due("a right one: fault(1)", w.fault(1), -1);
     }
 
+    /** Nothing of a wall stays in the next one, nor of a text with a FAULT. */
+    static void anew() {
+        String much = "hold 1 1 start top wide ice 9;".repeat(6) + "hold 1 1 ice 9;".repeat(8) + "guide leg 9 weight 9;".repeat(5) + "used 9 by 4;broken 3;broken 8;day 9;step : wide = 1;";
+        for (String end : new String[] {"", "hold", "?", "hold 1 1;", "used 9 by 5;"}) {
+            FootholdWall x = new FootholdWall();
+            tell(x, much + end);
+            due("another wall", tell(x, "hold 0 0;".repeat(14) + "guide leg 0;".repeat(5)), 19);
+            for (int h = 0; h < 14; h++) {
+                int[] plain = {0, 0, 0, 0, 1, 1, -1, -1, 0, 0};
+                for (int what = 0; what < 10; what++) due("hold(" + h + ", " + what + ")", x.hold(h, what), plain[what]);
+            }
+            for (int g = 0; g < 5; g++) for (int what = 0; what < 3; what++) due("guide(" + g + ", " + what + ")", x.guide(g, what), 0);
+            int[] counts = {14, 5, 0, 0, 0, 14, 0, 0, 19, 0};
+            for (int what = 0; what < 10; what++) due("count(" + what + ")", x.count(what), counts[what]);
+            due("no law", x.steps(0, 0, 1), 1);
+        }
+        FootholdWall x = new FootholdWall();
+        for (int i = 0; i < 40; i++) {
+            tell(x, "hold 0 0;hold 0 1;guide leg 1;step : " + "1 + ".repeat(i) + "1 = " + (i + 1) + " and up = 1;");
+            due("law " + i, x.steps(0, 0, 1) * 10 + x.steps(0, 1, 0), 10);
+        }
+        tell(x, LONG);
+        due("climbs of the longest", x.climbs(0, 7) + x.ways(0), 1);
+        due("saved of the longest", x.saved(0), 0x1ffe);
+        tell(x, "hold 0 9 top;hold 0 8;hold 0 0 start;hold 0 1 top;guide leg 1;");
+        due("climbs of another", x.climbs(0, 7), 1);
+        due("saved of another", x.saved(0), 0);
+        due("idle of another", x.idle(0), 3);
+    }
+
     static void promises5To8() {
         says(5, "-8: no such HOLD, what.");
         FootholdWall x = on(FULL);
@@ -1117,6 +1281,11 @@ public final class EdgeTest {
         x.rain(1);
         due("6: come back", x.hold(1, 6), -1);
         due("7: come back", x.hold(1, 7), -1);
+
+        says(5, "2: 1 if START, 3: 1 if TOP, 4: 1 if it is THERE, 5: 1 if it is OPEN");
+        FootholdWall ends = on("hold 1 1 start;hold 1 1 top;hold 1 1 start top;hold 1 1;guide leg 1;used 3 by 0;broken 1;");
+        int[][] flags = {{1, 0, 1, 1}, {0, 1, 0, 0}, {1, 1, 1, 1}, {0, 0, 1, 0}};
+        for (int h = 0; h < 4; h++) for (int what = 2; what < 6; what++) due("hold(" + h + ", " + what + ")", ends.hold(h, what), flags[h][what - 2]);
 
         says(5, "9: ice's DAY (0 without); else 0");
         FootholdWall plain = on("hold 0 0;");
@@ -1192,6 +1361,9 @@ public final class EdgeTest {
         due("1", climbOf(on(LADDER), 2, 0, 1, 3), 1);
         FootholdWall longest = on(LONG);
         due("12", climbOf(longest, 0, 0, 1, 2, 3, 4, 5, 6, 7, 8, 9, 10, 11, 12, 13), 12);
+        FootholdWall five = on(FULL);
+        due("by the last GUIDE", climbOf(five, 4, 0, 12, 13), 1);
+        due("USED by it", five.hold(12, 6), 4);
         FootholdWall y = on(LADDER);
         due("MISSING", y.climb(3), -6);
         for (int t = 0; t < 4; t++) y.numbers(t, 0, 0);
@@ -1228,6 +1400,10 @@ public final class EdgeTest {
 
     static void promises13To17() {
         says(13, "RAIN of n (1 to 14): how many came back. -3.");
+        FootholdWall last = on("hold 0 0;guide leg 1;used 0 by 0;");
+        due("the only one", last.rain(14), 1);
+        due("it can be UNDONE", last.undo(1), 0);
+        due("USED again", last.hold(0, 6), 0);
         FootholdWall x = on(LONG);
         bounds("rain", 1, 14, -3, n -> x.rain(n));
         x.goes(0);
@@ -1313,6 +1489,8 @@ public final class EdgeTest {
         due("one", on(LONG).ways(0), 1);
         due("none", x.ways(1), 0);
         due("many", on(threes()).ways(0), 81);
+        due("from two STARTS", on("hold 0 0 start;hold 9 0 start;hold 0 1 top;hold 9 1 top;guide leg 1;").ways(0), 2);
+        due("by one HOLD each", on("hold 0 0 start top;hold 0 0 start top;hold 0 0 start;hold 0 0 top;guide leg 0;").ways(0), 2);
 
         says(20, "How many CLIMBS there are with n HOLDS (1 to 7) or fewer. -2; -3.");
         bounds("climbs(g, 7)", 0, 4, -2, g -> full.climbs(g, 7));
@@ -1506,6 +1684,7 @@ public final class EdgeTest {
         due("none needs to be", on(LADDER).saved(2), 0);
         due("no CLIMB", tall.saved(0), -1);
         due("no HOLDS", on("guide leg 1;").saved(0), -1);
+        due("not a blind alley", on("hold 5 0 start;hold 4 0;hold 5 1;hold 5 2 top;guide leg 1;").saved(0), 4);
 
         says(35, "Whether a GUIDE still has a CLIMB behind the WAY of one (it itself, too): 1, 0. -2: one of both; -5: that one has no WAY.");
         FootholdWall y = on(LADDER);
@@ -1532,6 +1711,7 @@ public final class EdgeTest {
         for (int k = 0; k < 5; k++) due("two " + k, turns.inTurn(18, 10 + k), k == 0 ? 1 : k == 1 ? 4 : -1);
         for (int k = 0; k < 5; k++) due("nobody " + k, turns.inTurn(0, 10 + k), -1);
         due("how many get up", turns.inTurn(31, 0), 5);
+        due("by one HOLD", on("hold 0 0 start top;guide leg 1;guide leg 1;").inTurn(3, 0), 2);
         FootholdWall few = on("guide leg 1;guide leg 1;");
         bounds("inTurn of two", 0, 3, -3, set -> few.inTurn(set, 0));
         due("no GUIDES", on("hold 0 0 start top;").inTurn(1, 0), -3);
@@ -1603,6 +1783,21 @@ public final class EdgeTest {
         due("no WAY", l.lists(0, 1), -5);
         judged("the TRAY stays", l, -1, 0, 12);
         due("as a TOLD CLIMB", l.climb(0), 12);
+        FootholdWall m = on(FULL);
+        m.numbers(0, 0, 4);
+        due("of the last GUIDE", m.lists(0, 4), 4);
+        due("cut", m.write(0, 3, 0), 0);
+        m.numbers(0, 0, 4);
+        m.numbers(1, 0, 4);
+        m.lists(1, 4);
+        judged("a 0 in the place of the TOP", m, 2, 2, 0);
+        due("its climb", m.climb(1), 1);
+        due("USED by it", m.guide(4, 2), 2);
+        FootholdWall behind = on("hold 0 0 top;hold 0 0;hold 0 0 start;guide leg 0;guide leg 0;");
+        behind.numbers(0, 0, 4);
+        behind.write(0, 3, 1);
+        due("fewer than places", behind.lists(0, 1), 3);
+        judged("the last number stays", behind, 3, 3, 0);
     }
 
     static void promises40To42() {
