@@ -265,6 +265,7 @@ public final class EdgeTest {
         fault("hold 0 0;".repeat(15), 4, 126);
 
         firstAndLastHold();
+        allOfOneSort();
 
         says(0, "guide: LEG 0 to 99, WEIGHT 0 to 99 (0); numbered from 0 on, 5 at most");
         x = on("guide leg 0;guide leg 99 weight 0;guide leg 1 weight 99;guide leg 2;guide leg 3 weight 4;");
@@ -376,6 +377,49 @@ public final class EdgeTest {
         due("highest", x.highest(0), 2);
         tray(x, 0, 13, 1, 0);
         judged("told", x, -1, 0, 1);
+    }
+
+    /** All holds of one sort. */
+    static void allOfOneSort() {
+        FootholdWall x = on("hold 0 0 start top;".repeat(14) + "guide leg 0;");
+        due("all START and TOP: climbs", x.climbs(0, 7), 14);
+        due("ways", x.ways(0), 14);
+        due("idle", x.idle(0), 0);
+        due("reach", x.reach(0), 0x3fff);
+        due("parties", x.parties(0), 99);
+        due("saved", x.saved(0), 0);
+        due("whose", x.whose(0), 1);
+        due("whose of the first", x.whose(1), -3);
+        x = on("hold 0 0 start;".repeat(14) + "guide leg 0;");
+        due("all START: way", x.way(0, 0), -1);
+        due("climbs", x.climbs(0, 7) + x.ways(0), 0);
+        due("idle", x.idle(0), 0x3fff);
+        due("reach", x.reach(0), 0x3fff);
+        due("parties", x.parties(0), 0);
+        due("shut", x.shut(0, 1), 0);
+        due("whose", x.whose(0), 0);
+        due("leastLeg", x.leastLeg(0), -1);
+        x = on("hold 0 0 top;".repeat(14) + "guide leg 0;");
+        due("all TOP: way", x.way(0, 0), -1);
+        due("climbs", x.climbs(0, 7) + x.ways(0), 0);
+        due("idle", x.idle(0), 0x3fff);
+        due("reach", x.reach(0), 0);
+        due("highest", x.highest(0), -1);
+        due("saved", x.saved(0), -1);
+        x = on("hold 0 0;".repeat(14) + "guide leg 0;");
+        due("none of both: way", x.way(0, 0), -1);
+        due("whose of all", x.whose(0x3fff), 0);
+        due("order of all", x.order(0, 0x3fff, 0), -1);
+        due("idle", x.idle(0), 0x3fff);
+        due("needed", x.needed(0), 0);
+        due("parties", x.parties(0), 0);
+        x = on("hold 0 0 start;" + "hold 0 0 top;".repeat(13) + "guide leg 0;");
+        due("13 TOPS: climbs", x.climbs(0, 7), 13);
+        x = on("hold 0 0 top;" + "hold 0 0 start;".repeat(13) + "guide leg 0;");
+        due("13 STARTS: ways", x.ways(0), 13);
+        due("to the first", x.way(0, 10) * 100 + x.way(0, 11), 100);
+        due("climbs of 3", x.climbs(0, 3), 13 + 13 * 12);
+        due("order", x.order(0, 0, 0), 2);
     }
 
     // ---- the law's language
@@ -986,6 +1030,9 @@ public final class EdgeTest {
 
         says(0, "of like ones the least set as bits");
         due("of twelve the first", on(LONG).shut(0, 1), 2);
+        x = on("hold 0 0 start;hold 0 13 top;" + LONG.substring(15, LONG.indexOf("hold 0 13")) + "guide leg 1;");
+        due("the last HOLD aside", x.shut(0, 1), 4);
+        due("of the last HOLD: needed", x.needed(0), 0x3ffc);
         x = on("hold 0 0 start;hold 0 2;hold 0 2;hold 0 3;hold 0 1;hold 0 1;hold 0 4 top;guide leg 9;step : up = 1;");
         due("the one that all need", x.shut(0, 1), 8);
         x = on("hold 0 0 start;hold 0 2;hold 0 2;hold 0 1;hold 0 1;hold 0 3 top;guide leg 9;step : up = 1;");
