@@ -345,6 +345,12 @@ public final class EdgeTest {
         due("saved", x.saved(0), 1);
         due("leaves", x.leaves(0, 0), 1);
         due("inTurn", x.inTurn(3, 0), 2);
+        tray(x, 0, 1, 13, 2, 0);
+        judged("the first behind a TOP", x, 4, 3, 0);
+        tray(x, 1, 1, 13, 2);
+        due("a climb over the last", x.climb(0), 1);
+        due("USED by it: the last alone", x.guide(1, 2), last);
+        x.undo(1);
         due("goes", x.goes(1), 1);
         due("USED by", x.hold(0, 6), 1);
         due("needed then", x.needed(0), last);
@@ -451,6 +457,9 @@ public final class EdgeTest {
         due("> like", lawful("2 > 2"), 0);
         due("not", lawful("not 1 = 2"), 1);
         due("not not", lawful("not not 1 = 2"), 0);
+        due("not of <", lawful("not 1 < 2") + lawful("not 2 < 1"), 1);
+        due("not of >", lawful("not 2 > 1"), 0);
+        due("not of > like", lawful("not 2 > 2"), 1);
         due("not of one alone", lawful("not 1 = 2 or 1 = 1"), 1);
         due("not of all", lawful("not [1 = 2 or 1 = 1]"), 0);
         fault("step : not;", 2, 10);
@@ -1297,6 +1306,17 @@ public final class EdgeTest {
         for (int i = 0; i < 40; i++) {
             tell(x, "hold 0 0;hold 0 1;guide leg 1;step : " + "1 + ".repeat(i) + "1 = " + (i + 1) + " and up = 1;");
             due("law " + i, x.steps(0, 0, 1) * 10 + x.steps(0, 1, 0), 10);
+        }
+        tell(x, "hold 0 0 start wide;hold 0 1 wide;hold 0 2 wide top;guide leg 1;step : wide = 1;");
+        due("all wide", x.reach(0), 7);
+        tell(x, "hold 0 0 start;hold 0 1;hold 0 2 top;guide leg 1;step : wide = 1;");
+        due("none is wide", x.reach(0), 1);
+        due("not even the first", x.steps(0, 1, 0), 0);
+        for (int i = 0; i < 3; i++) {
+            tell(x, "hold 0 0 start;hold 0 1;hold 0 5;guide leg 1;");
+            due("one wall", x.reach(0), 3);
+            tell(x, "hold 0 0 start;hold 0 5;hold 0 1;guide leg 1;");
+            due("another one", x.reach(0), 5);
         }
         tell(x, LONG);
         due("climbs of the longest", x.climbs(0, 7) + x.ways(0), 1);
