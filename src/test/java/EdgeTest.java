@@ -1113,6 +1113,14 @@ public final class EdgeTest {
         due("none of five", x.inTurn(31, 0), 0);
         for (int k = 0; k < 5; k++) due("the first order " + k, x.inTurn(31, 10 + k), k);
 
+        says(0, "the order by which most do, the first by numbers");
+        x = on("hold 5 0 start;hold 5 2;hold 6 2;hold 5 4 top;guide leg 3;guide leg 2;guide leg 0;");
+        due("how many", x.inTurn(3, 0), 2);
+        due("the other way round", x.inTurn(3, 10) * 10 + x.inTurn(3, 11), 10);
+        due("with one who never gets up: how many", x.inTurn(7, 0), 2);
+        due("who stands as early as can be", x.inTurn(7, 10) * 100 + x.inTurn(7, 11) * 10 + x.inTurn(7, 12), 102);
+        due("nothing was done", x.count(4) + x.count(6), 0);
+
         says(0, "TRAYS 0 to 3 are MISSING at first, or have 0 to 40 numbers of 8 bits (sort 0), 16 (1), 32 (2), 64 (3).");
         x = new FootholdWall();
         for (int t = 0; t < 4; t++) due("MISSING", x.write(t, 0, 1), -6);
@@ -1164,6 +1172,24 @@ public final class EdgeTest {
             due("as it was", x.count(2) + x.count(4), 0);
         }
 
+        says(0, "DRAW modulo 4: 0 a DAY; 1 and 2 GUIDE DRAW modulo GUIDES goes by its WAY, if it has one; 3 RAIN of 1.");
+        for (int guides = 1; guides <= 5; guides++) {
+            boolean[] seen = new boolean[20];
+            for (int seed = -400; seed < 400; seed++) {
+                int kind = draw(seed) % 4, g = draw(1103515245 * seed + 12345) % guides;
+                if (seen[kind * 5 + g]) continue;
+                seen[kind * 5 + g] = true;
+                boolean goes = kind == 1 || kind == 2;
+                FootholdWall y = on(FULL.replace("guide leg 1;".repeat(5), "guide leg 1;".repeat(guides)) + "used 12 by 0;used 11 by 0;");
+                due(guides + " GUIDES, draws " + kind + ", " + g, y.season(seed, 1), goes ? 1 : 0);
+                due("DAY", y.count(2), kind == 0 ? 1 : 0);
+                due("USED", y.count(4), kind == 3 ? 1 : goes ? 3 : 2);
+                due("by whom", y.hold(1, 6), goes ? g : -1);
+                due("come back", y.hold(11, 5), kind == 3 ? 1 : 0);
+            }
+            for (int i = 0; i < guides; i++) due("drawn " + guides + " " + i, seen[i] && seen[5 + i] && seen[10 + i] && seen[15 + i] ? 1 : 0, 1);
+        }
+
         says(0, "so many times (1 to 40)");
         FootholdWall x = on(LADDER);
         bounds("season", 1, 40, -3, n -> x.season(0, n));
@@ -1194,6 +1220,15 @@ public final class EdgeTest {
         due("image(0)", x.image(0), 0);
         due("restore(0)", x.restore(0), 0);
         due("wall(0)", x.wall(0), 0);
+
+        says(1, "An object is used for at most 512 calls after it has been made");
+        FootholdWall old = on("hold 0 0 start top;guide leg 1;day 999;");
+        for (int i = 1; i <= 500; i++) due("days(99) " + i, old.days(99), 999 + 99 * i);
+        due("opens", old.opens(0), 999 + 99 * 500);
+        due("undo(10)", old.undo(10), 0);
+        old = new FootholdWall();
+        for (int i = 1; i <= 500; i++) due("newYear() " + i, old.newYear(), 0);
+        due("YEARS", old.count(3), 500);
 
         says(2, "-5: it would have more than 900.");
         FootholdWall y = new FootholdWall();
