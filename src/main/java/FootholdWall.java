@@ -870,8 +870,10 @@ public final class FootholdWall {
             tokens = t;
         }
 
-        void begin() {
+        /** Whether a TRUTH without a fault stands here. */
+        boolean read() {
             length = 0;
+            return readTruth(0);
         }
 
         Law made() {
@@ -892,7 +894,7 @@ public final class FootholdWall {
             }
         }
 
-        boolean readTruth(int depth) {
+        private boolean readTruth(int depth) {
             boolean fine = readBoth(depth);
             for (int i = 0; i < TAPE && fine && tokens.isWord("or"); i++) {
                 tokens.go();
@@ -1144,8 +1146,7 @@ public final class FootholdWall {
             if (tokens.isWord("step")) {
                 tokens.go();
                 lawTold = true;
-                lawReader.begin();
-                return tokens.takeSign(':') && lawReader.readTruth(0);
+                return tokens.takeSign(':') && lawReader.read();
             }
             if (tokens.isWord("used")) {
                 return readUsed();
